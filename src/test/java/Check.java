@@ -1,3 +1,8 @@
+import java.lang.reflect.Method;
+import java.lang.reflect.Modifier;
+import java.util.Arrays;
+import java.util.Comparator;
+
 /** Counts the answers that are not as due, prints them, and ends a test with exit code 1 if there were any. */
 final class Check {
     interface Call {
@@ -5,6 +10,29 @@ final class Check {
     }
 
     private int wrong = 0;
+    private String caseName = "";
+
+    /**
+     * Runs each case of a test class, a static method without parameters, under its own name, so that a wrong
+     * answer tells the promise and the case, and no case can be written and then forgotten.
+     */
+    void runCases(Class<?> test) throws ReflectiveOperationException {
+        Method[] methods = test.getDeclaredMethods();
+        Arrays.sort(methods, Comparator.comparing(Method::getName));
+        int cases = 0;
+        for (Method m : methods) {
+            if (Modifier.isStatic(m.getModifiers()) && !m.isSynthetic() && m.getParameterCount() == 0
+                && m.getReturnType() == void.class) {
+                caseName = test.getName() + "." + m.getName() + ": ";
+                m.setAccessible(true);
+                m.invoke(null);
+                cases++;
+            }
+        }
+        caseName = "";
+        System.out.println(cases + " cases");
+        due("a test class has cases", cases > 0);
+    }
 
     void due(String call, long got, long want) {
         if (got != want) {
@@ -53,6 +81,33 @@ final class Check {
         }
     }
 
+    void dueTexts(String what, String got, String want) {
+        if (!got.equals(want)) {
+            tell(what + " is " + got + ", due is " + want);
+        }
+    }
+
+    /** A call that is refused throws what is due and leaves all as it was. */
+    void dueRefused(String call, Class<? extends RuntimeException> want, AgedMarks x, Call made) {
+        String before = state(x);
+        dueThrow(call, want, made);
+        dueTexts(call + ": what it leaves", state(x), before);
+    }
+
+    /** All that an object tells without being changed: some 10 calls and 2 for each mark. */
+    static String state(AgedMarks x) {
+        StringBuilder s = new StringBuilder("counts");
+        for (int what = 0; what <= 6; what++) {
+            s.append(' ').append(x.count(what));
+        }
+        s.append(", worst ").append(x.worst()).append(", marks");
+        long held = x.count(2);
+        for (int k = 0; k < held; k++) {
+            s.append(' ').append(x.mark(k, 0)).append('/').append(x.mark(k, 1));
+        }
+        return s.toString();
+    }
+
     boolean failed() {
         return wrong > 0;
     }
@@ -67,7 +122,7 @@ final class Check {
     private void tell(String line) {
         wrong++;
         if (wrong <= 50) {
-            System.out.println(line);
+            System.out.println(caseName + line);
         }
     }
 }

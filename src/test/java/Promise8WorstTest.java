@@ -34,7 +34,7 @@ public final class Promise8WorstTest {
     private static void worstBehindTheNewestMark() {
         AgedMarks x = new AgedMarks(1, 2);
         x.run(100);
-        // At 100 the marks lie at 0, 32, 64 and on: going to 31 or 63 is the dearest.
+        // At 100 the marks lie at 0, 32, 48 and on: going to 31 is the dearest.
         check.due("at 100", x.worst(), 31);
         x.go(20);
         x.cut();
