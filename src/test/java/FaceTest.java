@@ -39,7 +39,29 @@ public final class FaceTest {
         check.due("the face " + seen, seen.equals(due));
         check.due("the class is public and final", Modifier.isPublic(face.getModifiers())
             && Modifier.isFinal(face.getModifiers()));
+        check.due("NONE", AgedMarks.NONE, -1);
+        privateMethodsBearNamesOfTheirOwn(face);
+        classesInsideAreHiddenAndStatic(face);
         check.finish();
+    }
+
+    private static void privateMethodsBearNamesOfTheirOwn(Class<?> face) {
+        Set<String> names = new TreeSet<>();
+        for (Method m : face.getMethods()) {
+            names.add(m.getName());
+        }
+        for (Method m : face.getDeclaredMethods()) {
+            check.due(m + " bears no public method's name", !Modifier.isPrivate(m.getModifiers())
+                || !names.contains(m.getName()));
+        }
+    }
+
+    private static void classesInsideAreHiddenAndStatic(Class<?> face) {
+        for (Class<?> c : face.getDeclaredClasses()) {
+            int m = c.getModifiers();
+            check.due(c + " is static and not to be seen", Modifier.isStatic(m)
+                && !Modifier.isPublic(m) && !Modifier.isProtected(m));
+        }
     }
 
     private static void see(Set<String> seen, int modifiers, String text) {
